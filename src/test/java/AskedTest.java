@@ -13,6 +13,7 @@ public final class AskedTest {
         fieldOfOne();
         fieldOfMidnight();
         fieldBelowZero();
+        fieldEdges();
         fieldWrong();
         compareAndSame();
         isSameAs();
@@ -148,6 +149,15 @@ public final class AskedTest {
                 "-1 2 -1 0");
     }
 
+    private static void fieldEdges() {
+        Daytimepair x = at(2000, 1, 7, 0, 0, 0, 999999999);
+        Checks.due("48 most millis of a second", x.field(1, 4), "999");
+        Checks.due("48 first week", x.field(1, 21) + x.field(1, 22), "11");
+        set(x, 1, 2000, 1, 8, 0, 0, 0, 1000000);
+        Checks.due("48 one of the millis", x.field(1, 4), "1");
+        Checks.due("48 second week", x.field(1, 21) + x.field(1, 22), "22");
+    }
+
     private static void fieldWrong() {
         Daytimepair x = new Daytimepair();
         for (int field : new int[] {-1, 28, Integer.MIN_VALUE, Integer.MAX_VALUE}) {
@@ -239,7 +249,7 @@ public final class AskedTest {
         int[][] pairs = {
             {2024, 1, 28, 12, 2024, 2, 28, 12, 1}, {2024, 1, 28, 12, 2024, 2, 28, 11, 0},
             {2024, 1, 28, 12, 2024, 2, 27, 23, 0}, {2024, 1, 28, 12, 2024, 3, 1, 0, 1},
-            {2024, 1, 10, 12, 2024, 1, 10, 12, 0}, {2024, 1, 10, 12, 2024, 1, 11, 12, 0},
+            {2024, 1, 10, 12, 2024, 2, 11, 11, 1}, {2024, 1, 10, 12, 2024, 1, 10, 12, 0}, {2024, 1, 10, 12, 2024, 1, 11, 12, 0},
             {2023, 12, 28, 0, 2024, 1, 28, 0, 1}, {2000, 1, 1, 0, 2010, 1, 1, 0, 120},
             {2000, 1, 1, 1, 2010, 1, 1, 0, 119}, {-1, 12, 1, 0, 1, 1, 1, 0, 13},
             {-9999, 1, 1, 0, 9999, 12, 28, 23, 239987}, {0, 1, 28, 0, 1000, 1, 28, 0, 12000},

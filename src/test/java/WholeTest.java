@@ -46,6 +46,17 @@ public final class WholeTest {
         Checks.due("54 three kinds", x.house(2), 3);
         Checks.due("54 smallest number ahead", x.house(3), 2);
         for (int moment = 0; moment < 6; moment++) {
+            x.ofDay(moment, 3);
+        }
+        for (int moment = 5; moment >= 0; moment--) {
+            x.plusNanos(moment, 0, -6 + moment);
+            Checks.due("54 ahead, the moment " + moment, x.house(3), moment);
+        }
+        for (int moment = 5; moment >= 0; moment--) {
+            x.plusNanos(moment, 1, -moment);
+            Checks.due("54 behind, the moment " + moment, x.house(4), moment);
+        }
+        for (int moment = 0; moment < 6; moment++) {
             x.ofDay(moment, -moment);
         }
         Checks.due("54 none same", x.house(2), 0);
