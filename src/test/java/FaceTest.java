@@ -7,7 +7,9 @@ import java.nio.file.Files;
 import java.nio.file.Path;
 import java.util.ArrayList;
 import java.util.List;
+import java.util.Map;
 import java.util.Set;
+import java.util.TreeMap;
 import java.util.TreeSet;
 import java.util.regex.Matcher;
 import java.util.regex.Pattern;
@@ -21,6 +23,7 @@ public final class FaceTest {
         face();
         nothingElse();
         words();
+        depth();
         Checks.end("FaceTest");
     }
 
@@ -84,14 +87,66 @@ public final class FaceTest {
 
     private static void words() throws IOException {
         String text = Files.readString(PROGRAM);
-        for (String word : new String[] {"import ", "package ", "->", "::", "finally", "synchronized", "assert ",
-            "Exact(", "catch", "System.", "null", "\" +", "+ \"", "double", "float", "while"}) {
+        for (String word : new String[] {"package ", "->", "::", "finally", "synchronized", "assert ", "Exact(",
+            "getMessage", "\" +", "+ \"", "NaN", "extends Exception", "extends RuntimeException"}) {
             Checks.due("the program holds " + word, text.contains(word), false);
         }
+        Set<String> imports = Set.of("java.util.ArrayList", "java.util.List", "java.util.Arrays", "java.util.Iterator",
+                "java.util.NoSuchElementException");
+        Matcher line = Pattern.compile("import (.*?);").matcher(text);
+        while (line.find()) {
+            Checks.due("may be imported: " + line.group(1), imports.contains(line.group(1)), true);
+        }
+        Checks.due("System for arraycopy alone", text.replace("System.arraycopy", "").contains("System."), false);
         for (int i = 0; i < text.length(); i++) {
             if (text.charAt(i) > 126) {
                 Checks.due("a sign of the program", text.charAt(i), "one of 1 to 126");
             }
         }
+    }
+
+    /** Methods by their names (no two bear one), each with the lines of its body. */
+    private static Map<String, String> bodies() throws IOException {
+        Map<String, String> bodies = new TreeMap<>();
+        String name = null;
+        StringBuilder body = new StringBuilder();
+        Pattern head = Pattern.compile("    (?:public|private) .*?(\\w+)\\(.*");
+        for (String line : Files.readAllLines(PROGRAM)) {
+            Matcher method = head.matcher(line);
+            if (method.matches() && !line.endsWith(";")) {
+                name = method.group(1);
+                body.setLength(0);
+            } else if (name != null && line.equals("    }")) {
+                bodies.put(name, body.toString());
+                name = null;
+            } else {
+                body.append(line).append('\n');
+            }
+        }
+        return bodies;
+    }
+
+    // Rule 11: "Methods stay short (some sixty lines), calls that are no recursion go at most eight deep"
+    private static void depth() throws IOException {
+        Map<String, String> bodies = bodies();
+        Checks.due("methods are found", bodies.containsKey("digest"), true);
+        for (String name : bodies.keySet()) {
+            Checks.due(name + " is short", bodies.get(name).split("\n").length <= 60, true);
+            int deep = depthOf(name, bodies, "");
+            Checks.due(name + " calls at most eight deep, and is " + deep, deep <= 8, true);
+        }
+    }
+
+    /** The library's own methods count too; what they call does not, nor does a method that is open already. */
+    private static int depthOf(String name, Map<String, String> bodies, String open) {
+        if (open.contains(" " + name + " ")) {
+            return 0;
+        }
+        int deepest = 0;
+        Matcher call = Pattern.compile("(\\w+)\\(").matcher(bodies.getOrDefault(name, ""));
+        while (call.find()) {
+            deepest = Math.max(deepest, depthOf(call.group(1), bodies, open + " " + name + " "));
+        }
+        return deepest + 1;
     }
 }

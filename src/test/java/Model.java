@@ -24,7 +24,7 @@ final class Model {
     String answer(String name, int[] a) {
         String exception = exceptionOf(name, a);
         if (exception != null) {
-            return "throws " + exception;
+            return "throws." + exception;
         }
         if (name.startsWith("plus") || name.startsWith("minus")) {
             return become(a[0], gone(name, a));

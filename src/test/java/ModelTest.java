@@ -1,4 +1,3 @@
-import java.lang.reflect.InvocationTargetException;
 import java.lang.reflect.Method;
 import java.util.ArrayList;
 import java.util.Arrays;
@@ -16,7 +15,7 @@ public final class ModelTest {
 
     private static long seed = 20261118L;
 
-    public static void main(String[] args) throws ReflectiveOperationException {
+    public static void main(String[] args) {
         Method[] face = face();
         int[] refused = new int[1];
         for (int run = 1; run <= RUNS; run++) {
@@ -37,7 +36,7 @@ public final class ModelTest {
         return methods.toArray(new Method[0]);
     }
 
-    private static void play(int run, Method[] face, int[] refused) throws ReflectiveOperationException {
+    private static void play(int run, Method[] face, int[] refused) {
         Daytimepair program = new Daytimepair();
         Model model = new Model();
         boolean wild = run % 4 == 0;
@@ -45,22 +44,10 @@ public final class ModelTest {
             Method method = face[below(face.length)];
             int[] numbers = numbersFor(method, wild);
             String what = "run " + run + " call " + call + " " + method.getName() + Arrays.toString(numbers);
-            Checks.due(what, answer(program, method, numbers), model.answer(method.getName(), numbers));
+            String got = String.valueOf(Checks.invoke(program, method, numbers));
+            Checks.due(what, got, model.answer(method.getName(), numbers));
         }
         refused[0] += model.house(1);
-    }
-
-    private static String answer(Daytimepair program, Method method, int[] numbers)
-            throws ReflectiveOperationException {
-        Object[] arguments = new Object[numbers.length];
-        for (int i = 0; i < numbers.length; i++) {
-            arguments[i] = numbers[i];
-        }
-        try {
-            return String.valueOf(method.invoke(program, arguments));
-        } catch (InvocationTargetException e) {
-            return "throws " + e.getCause().getClass().getSimpleName();
-        }
     }
 
     /** Mostly numbers that are let, so that the runs get somewhere. */
