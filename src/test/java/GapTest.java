@@ -166,7 +166,7 @@ public final class GapTest {
 
     private static void refusedNanos() {
         refusesGap("1970-1-1 0:0:0.0", "2243-10-18 0:0:0.0", 0);
-        // less than 100000 whole days lie between these, but the DAYS are 100001 apart
+        // 100000 whole days and a nano lie between these, but the DAYS are 100001 apart
         refusesGap("1970-1-1 23:59:59.999999999", "2243-10-18 0:0:0.0", 0);
         refusesGap("1970-1-1 23:59:59.999999999", "2243-10-18 23:59:59.999999999", 0);
         refusesGap("1696-3-16 23:59:59.999999999", "1970-1-1 0:0:0.0", 0);
